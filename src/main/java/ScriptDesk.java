@@ -5,7 +5,7 @@ import java.util.Arrays;
  * A writer's desk for screenplays: it reads a tape of bytes into elements, breaks them into pages
  * at the least cost, locks the pages, and tells who is in which scene.
  *
- * <p>The words in capitals are those of the document. No method ever throws.
+ * <p>The words in capitals are those of the document. Every call answers, whatever it is given.
  */
 public final class ScriptDesk {
     public static final int NONE = -1, BAD = -2, NO = -3, FULL = -4;
