@@ -656,7 +656,7 @@ public final class ScriptDesk {
     /** An ELEMENT: its WORDS with one blank between, and where each of its ROWS begins and ends. */
     private static final class Element {
         private static final int[] WIDTHS = {40, 40, 24, 20, 28, 40};
-        private static final int WIDEST = 40;
+        private static final int NARROWEST = 20, WIDEST = 40;
 
         final int kind;
         int number;
@@ -675,7 +675,7 @@ public final class ScriptDesk {
             text = new byte[Math.max(0, to - from)];
             takeWords(tape, from, to);
             // Two ROWS next to one another have a WIDTH of bytes at least: no more ROWS than this.
-            int mostRows = 2 * (size / width()) + 1;
+            int mostRows = 2 * (size / NARROWEST) + 1;
             rowFrom = new int[mostRows];
             rowTo = new int[mostRows];
             fillRows();

@@ -33,6 +33,7 @@ public final class PromiseTests {
         strike();
         insert();
         insertFull();
+        manyRows();
         sheets();
         sheetsForced();
         sheet();
@@ -123,6 +124,10 @@ public final class PromiseTests {
 
     private static String action(int rows) {
         return rows(rows, 40) + "\n\n";
+    }
+
+    private static String change(int rows) {
+        return "X".repeat(40 * rows - 1) + ":\n\n";
     }
 
     private static String talk(int rows) {
@@ -229,6 +234,11 @@ public final class PromiseTests {
         kinds("x\nINT. HOUSE", 5);
         kinds("x\n  \nINT. HOUSE", 5, 0);
         kinds("EXT. A\nEXT. B", 0, 5);
+        kinds("INTO A", 5);
+        kinds("ANT. A", 5);
+        kinds("INT. A a", 5);
+        kinds("INT. A z", 5);
+        kinds("INT. A{`", 0);
         kinds("CUT TO:", 1);
         kinds("CUT TO:\n   \nx", 1, 5);
         kinds("CUT TO: ", 1);
@@ -243,6 +253,9 @@ public final class PromiseTests {
         kinds("  ABCDEFGHIJKLMNOPQRSTUVWX  \nhi", 2, 4);
         kinds("ABCDEFGHIJKLMNOPQRSTUVWXY\nhi", 5);
         kinds("12\nhi", 5);
+        kinds("A\nhi", 2, 4);
+        kinds("Z\nhi", 2, 4);
+        kinds("@[\nhi", 5);
         kinds("B2\nhi", 2, 4);
         kinds("BOb\nhi", 5);
         kinds("BOB\n(low)\nhi\n(high)\nho", 2, 3, 4, 3, 4);
@@ -286,6 +299,20 @@ public final class PromiseTests {
         x.cut(180);
         due("60 elements", x.read(), 60);
         due("the tape is empty", x.count(0), 0);
+        put(x, "x" + "\n".repeat(80) + "x");
+        due("blank lines are no elements", x.read(), 2);
+        put(x, "BOB\n" + lines(59, "(a)\n"));
+        due("60 without a blank line", x.read(), 60);
+        put(x, "BOB\n" + lines(60, "(a)\n"));
+        due("61 without a blank line", x.read(), -4);
+        x.cut(0);
+        put(x, lines(200, "a b\n"));
+        due("200 lines, one element", x.read(), 1);
+        put(x, "\n".repeat(1200));
+        due("1200 blank lines", x.read(), 0);
+        put(x, "a\n".repeat(600));
+        due("600 lines", x.read(), 1);
+        due("600 words", x.element(0, 1), 600);
     }
 
     private static void length() {
@@ -465,6 +492,13 @@ public final class PromiseTests {
         due("locked", x.cost(), -1);
         x.merge();
         due("merged", x.cost(), 2);
+        // A tie: changes of 6, 1, 6, 10 rows. 8 and 6, or 6 and 8: both cost 20.
+        x = deskOf(change(6) + change(1) + change(6) + change(10), 10);
+        due("kind", x.element(3, 0), 1);
+        due("a tie", x.cost(), 20);
+        pageIs(x, 0, 8, 0, 0, 1, 1);
+        pageIs(x, 1, 6, 2, 0, 2, 6);
+        pageIs(x, 2, 10, 3, 0, 3, 10);
         x = deskOf(action(10) + action(10) + action(1), 10);
         due("full pages", x.cost(), 0);
         due("three of them", x.pages(), 3);
@@ -593,6 +627,21 @@ public final class PromiseTests {
         due("the last one's sheet", x.where(4), 58);
         x.merge();
         due("no place allows an end", x.pages(), 0);
+    }
+
+    /** As many rows as the class has room for at first, one less and one more. */
+    private static void manyRows() {
+        promise = "8 pages: many rows";
+        for (int more = 22; more <= 24; more++) {
+            ScriptDesk x = lockedDesk("INT. A", 10);
+            put(x, badAsides(52));
+            x.insert(0, 3);
+            put(x, badAsides(more / 2) + (more % 2 == 1 ? "a" : ""));
+            x.insert(0, 3);
+            due("merge()", x.merge(), 3);
+            due("rows", x.count(3), 105 + more);
+            due("pages()", x.pages(), 0);
+        }
     }
 
     /** Words that fill an aside's rows as badly as can be: twice so many rows. */
@@ -833,6 +882,11 @@ public final class PromiseTests {
         x = desk("INT. A\n\nA  B\nx\n\nA B\nx\n\nAB\nx");
         due("words, not blanks", x.scene(0, 1), 2);
         due("AB is another", x.who(0, 1), 5);
+        x = desk("INT. A\n\nBOB\nx\n\nROB\nx\n\nINT. B\n\nANN\nx\n\nBO\nx");
+        due("ROB is not BOB", x.who(0, 1), 3);
+        due("who is in the next scene is not in this", x.who(0, 2), -1);
+        due("scene(0, 1)", x.scene(0, 1), 2);
+        due("BO is not BOB", x.who(1, 1), 8);
     }
 
     private static void parts() {
