@@ -2,17 +2,7 @@
  * Each promise of the document by hand: ordinary inputs, the edges it names, and wrong inputs.
  * What is due was worked out from the document, not from the class.
  */
-public final class PromiseTests {
-    private static int wrong = 0;
-    private static String promise = "";
-
-    private static void due(String what, long got, long want) {
-        if (got != want) {
-            wrong++;
-            System.out.println(promise + ": " + what + " answered " + got + ", due is " + want);
-        }
-    }
-
+public final class PromiseTests extends Bench {
     public static void main(String[] args) {
         newObject();
         feed();
@@ -44,104 +34,13 @@ public final class PromiseTests {
         parts();
         count();
         digest();
-        System.out.println(wrong == 0 ? "all promises hold" : wrong + " answers are not as due");
-        if (wrong != 0) {
-            System.exit(1);
-        }
-    }
-
-    // ------------------------------------------------------------ helpers
-
-    private static int put(ScriptDesk x, String text) {
-        int answer = 0;
-        for (int at = 0; at < text.length(); at += 8) {
-            int n = Math.min(8, text.length() - at);
-            long w = 0;
-            for (int i = 0; i < n; i++) {
-                w = w << 8 | text.charAt(at + i);
-            }
-            answer = x.feed(w, n);
-        }
-        return answer;
-    }
-
-    private static ScriptDesk desk(String text) {
-        ScriptDesk x = new ScriptDesk();
-        put(x, text);
-        x.read();
-        return x;
-    }
-
-    private static ScriptDesk deskOf(String text, int length) {
-        ScriptDesk x = desk(text);
-        x.length(length);
-        return x;
-    }
-
-    private static ScriptDesk lockedDesk(String text, int length) {
-        ScriptDesk x = deskOf(text, length);
-        x.lock();
-        return x;
-    }
-
-    private static void kinds(String text, int... want) {
-        ScriptDesk x = new ScriptDesk();
-        put(x, text);
-        String shown = text.replace('\n', '|');
-        due("read() of " + shown, x.read(), want.length);
-        for (int e = 0; e < want.length; e++) {
-            due("element(" + e + ", 0) of " + shown, x.element(e, 0), want[e]);
-        }
-    }
-
-    private static void row(ScriptDesk x, int e, int row, String want) {
-        for (int i = 0; i < want.length(); i++) {
-            due("rowByte(" + e + ", " + row + ", " + i + ")", x.rowByte(e, row, i), want.charAt(i));
-        }
-        due("behind row " + row, x.rowByte(e, row, want.length()), ScriptDesk.NONE);
-    }
-
-    private static void pageIs(ScriptDesk x, int page, int... want) {
-        for (int what = 0; what < want.length; what++) {
-            due("page(" + page + ", " + what + ")", x.page(page, what), want[what]);
-        }
-    }
-
-    private static void sheetIs(ScriptDesk x, int group, int s, int... want) {
-        for (int what = 0; what < want.length; what++) {
-            due("sheet(" + group + ", " + s + ", " + what + ")", x.sheet(group, s, what), want[what]);
-        }
-    }
-
-    /** So many rows of a kind whose width is given: a word that fills the width for each. */
-    private static String rows(int rows, int width) {
-        StringBuilder text = new StringBuilder();
-        for (int i = 0; i < rows; i++) {
-            text.append(i == 0 ? "" : " ").append("x".repeat(width));
-        }
-        return text.toString();
-    }
-
-    private static String action(int rows) {
-        return rows(rows, 40) + "\n\n";
-    }
-
-    private static String change(int rows) {
-        return "X".repeat(40 * rows - 1) + ":\n\n";
-    }
-
-    private static String talk(int rows) {
-        return "BOB\n" + rows(rows, 28) + "\n\n";
-    }
-
-    private static String lines(int n, String line) {
-        return line.repeat(n);
+        end();
     }
 
     // ------------------------------------------------------------ promises
 
     private static void newObject() {
-        promise = "1 a new object";
+        says("1 a new object");
         ScriptDesk x = new ScriptDesk();
         int[] want = {0, 0, 0, 0, 0, 20};
         for (int what = 0; what < want.length; what++) {
@@ -158,7 +57,7 @@ public final class PromiseTests {
     }
 
     private static void feed() {
-        promise = "2 feed";
+        says("2 feed");
         ScriptDesk x = new ScriptDesk();
         due("n 0", x.feed(65, 0), -2);
         due("n 9", x.feed(65, 9), -2);
@@ -186,7 +85,7 @@ public final class PromiseTests {
     }
 
     private static void cut() {
-        promise = "3 cut";
+        says("3 cut");
         ScriptDesk x = new ScriptDesk();
         due("nothing of nothing", x.cut(0), 0);
         due("beyond", x.cut(1), -2);
@@ -204,7 +103,7 @@ public final class PromiseTests {
     }
 
     private static void readLines() {
-        promise = "4 read: lines";
+        says("4 read: lines");
         kinds("");
         kinds("\n");
         kinds("   \n \n");
@@ -224,7 +123,7 @@ public final class PromiseTests {
     }
 
     private static void readKinds() {
-        promise = "4 read: kinds";
+        says("4 read: kinds");
         kinds("INT. HOUSE", 0);
         kinds("EXT.", 0);
         kinds("  INT. HOUSE  \nx", 0, 5);
@@ -274,7 +173,7 @@ public final class PromiseTests {
     }
 
     private static void readJoins() {
-        promise = "4 read: elements";
+        says("4 read: elements");
         ScriptDesk x = desk("he  goes\n  out \nand in");
         due("three lines, one element", x.count(1), 1);
         due("its words", x.element(0, 1), 5);
@@ -288,9 +187,9 @@ public final class PromiseTests {
     }
 
     private static void readFull() {
-        promise = "4 read: FULL";
+        says("4 read: FULL");
         ScriptDesk x = lockedDesk("abc", 11);
-        put(x, lines(61, "x\n\n"));
+        put(x, times(61, "x\n\n"));
         long before = x.digest();
         due("61 elements", x.read(), -4);
         due("the tape stays", x.count(0), 183);
@@ -301,12 +200,12 @@ public final class PromiseTests {
         due("the tape is empty", x.count(0), 0);
         put(x, "x" + "\n".repeat(80) + "x");
         due("blank lines are no elements", x.read(), 2);
-        put(x, "BOB\n" + lines(59, "(a)\n"));
+        put(x, "BOB\n" + times(59, "(a)\n"));
         due("60 without a blank line", x.read(), 60);
-        put(x, "BOB\n" + lines(60, "(a)\n"));
+        put(x, "BOB\n" + times(60, "(a)\n"));
         due("61 without a blank line", x.read(), -4);
         x.cut(0);
-        put(x, lines(200, "a b\n"));
+        put(x, times(200, "a b\n"));
         due("200 lines, one element", x.read(), 1);
         put(x, "\n".repeat(1200));
         due("1200 blank lines", x.read(), 0);
@@ -316,7 +215,7 @@ public final class PromiseTests {
     }
 
     private static void length() {
-        promise = "5 length";
+        says("5 length");
         ScriptDesk x = desk("abc");
         due("9", x.length(9), -2);
         due("41", x.length(41), -2);
@@ -333,7 +232,7 @@ public final class PromiseTests {
     }
 
     private static void element() {
-        promise = "6 element";
+        says("6 element");
         ScriptDesk x = desk("INT. A B\n\nBOB\nhi there you");
         due("-1", x.element(-1, 0), -2);
         due("3", x.element(3, 0), -2);
@@ -352,7 +251,7 @@ public final class PromiseTests {
     }
 
     private static void rowsOfWords() {
-        promise = "6 element: rows";
+        says("6 element: rows");
         int[] widths = {40, 40, 24, 20, 28, 40};
         for (int kind = 0; kind < 6; kind++) {
             ScriptDesk x = lockedDesk("abc", 40);
@@ -381,7 +280,7 @@ public final class PromiseTests {
     }
 
     private static void rowByte() {
-        promise = "7 rowByte";
+        says("7 rowByte");
         ScriptDesk x = desk("ab  cd");
         row(x, 0, 0, "ab cd");
         due("i far beyond", x.rowByte(0, 0, Integer.MAX_VALUE), -1);
@@ -397,17 +296,17 @@ public final class PromiseTests {
     }
 
     private static void pages() {
-        promise = "8 pages";
+        says("8 pages");
         due("no elements", new ScriptDesk().pages(), 0);
         due("a head alone", desk("INT. A").pages(), 1);
         due("10 rows on 10", deskOf(action(10), 10).pages(), 1);
         due("11 rows on 10", deskOf(action(11), 10).pages(), 2);
         due("a head of 11 rows on 10", deskOf("INT. " + "X".repeat(440), 10).pages(), 0);
         due("a head of 10 rows on 10", deskOf("INT." + "X".repeat(396), 10).pages(), 1);
-        due("6 heads on 10", deskOf(lines(6, "INT. A\n\n"), 10).pages(), 0);
-        due("6 heads on 11", deskOf(lines(6, "INT. A\n\n"), 11).pages(), 1);
-        due("5 heads, an action, on 10", deskOf(lines(5, "INT. A\n\n") + "x", 10).pages(), 0);
-        ScriptDesk x = deskOf(lines(6, "INT. A\n\n"), 10);
+        due("6 heads on 10", deskOf(times(6, "INT. A\n\n"), 10).pages(), 0);
+        due("6 heads on 11", deskOf(times(6, "INT. A\n\n"), 11).pages(), 1);
+        due("5 heads, an action, on 10", deskOf(times(5, "INT. A\n\n") + "x", 10).pages(), 0);
+        ScriptDesk x = deskOf(times(6, "INT. A\n\n"), 10);
         due("none: cost", x.cost(), -1);
         due("none: lock", x.lock(), -3);
         due("none: page", x.page(0, 0), -2);
@@ -423,7 +322,7 @@ public final class PromiseTests {
 
     /** Where pages may end, each with L 10 and so short that only one way, or the best, is left. */
     private static void breakPlaces() {
-        promise = "8 pages: places";
+        says("8 pages: places");
         // An action of 11: breaks at 2 .. 9 are allowed, at 9 it costs 1 + 10 (two rows behind it).
         ScriptDesk x = deskOf(action(11), 10);
         pageIs(x, 0, 9, 0, 0, 0, 9, 0, 0);
@@ -470,11 +369,11 @@ public final class PromiseTests {
     }
 
     private static void cost() {
-        promise = "9 cost";
+        says("9 cost");
         due("no elements", new ScriptDesk().cost(), -1);
         due("one page costs nothing", desk("abc").cost(), 0);
         // Four actions of 4 on pages of 10: 4 + 1 + 4 = 9 rows, then 9: (10 - 9)^2.
-        ScriptDesk x = deskOf(lines(4, action(4)), 10);
+        ScriptDesk x = deskOf(times(4, action(4)), 10);
         due("two pages", x.pages(), 2);
         due("cost", x.cost(), 1);
         // Within the second action, two full pages for 10; behind the first one it would be 9 + 10.
@@ -483,7 +382,7 @@ public final class PromiseTests {
         pageIs(x, 1, 10, 1, 2, 1, 12);
         due("cost", x.cost(), 10);
         // Of like cost, most rows on page 0: 5 actions of one row with 4 empty ones are 9 rows.
-        x = deskOf(lines(13, "x\n\n"), 10);
+        x = deskOf(times(13, "x\n\n"), 10);
         due("pages", x.pages(), 3);
         due("cost", x.cost(), 2);
         due("most on page 0", x.page(0, 3), 4);
@@ -505,7 +404,7 @@ public final class PromiseTests {
     }
 
     private static void page() {
-        promise = "10 page";
+        says("10 page");
         ScriptDesk x = deskOf(action(10) + action(4), 10);
         pageIs(x, 0, 10, 0, 0, 0, 10, 0, 0);
         pageIs(x, 1, 4, 1, 0, 1, 4, 0, 0);
@@ -520,7 +419,7 @@ public final class PromiseTests {
     }
 
     private static void lock() {
-        promise = "11 lock";
+        says("11 lock");
         due("nothing", new ScriptDesk().lock(), -3);
         ScriptDesk x = deskOf(talk(18), 10);
         due("three pages", x.lock(), 3);
@@ -535,7 +434,7 @@ public final class PromiseTests {
     }
 
     private static void strike() {
-        promise = "12 strike";
+        says("12 strike");
         ScriptDesk x = deskOf(talk(18), 10);
         due("not locked", x.strike(0), -3);
         due("BAD goes ahead of NO", x.strike(2), -2);
@@ -555,7 +454,7 @@ public final class PromiseTests {
     }
 
     private static void insert() {
-        promise = "13 insert";
+        says("13 insert");
         ScriptDesk x = deskOf("INT. A\n\nabc", 10);
         put(x, " d\n e");
         due("not locked", x.insert(0, 5), -3);
@@ -591,8 +490,8 @@ public final class PromiseTests {
     }
 
     private static void insertFull() {
-        promise = "13 insert: FULL";
-        ScriptDesk x = lockedDesk(lines(59, "x\n\n"), 10);
+        says("13 insert: FULL");
+        ScriptDesk x = lockedDesk(times(59, "x\n\n"), 10);
         put(x, "y");
         due("the 60th", x.insert(0, 5), 59);
         put(x, "y");
@@ -631,7 +530,7 @@ public final class PromiseTests {
 
     /** As many rows as the class has room for at first, one less and one more. */
     private static void manyRows() {
-        promise = "8 pages: many rows";
+        says("8 pages: many rows");
         for (int more = 22; more <= 24; more++) {
             ScriptDesk x = lockedDesk("INT. A", 10);
             put(x, badAsides(52));
@@ -650,7 +549,7 @@ public final class PromiseTests {
     }
 
     private static void sheets() {
-        promise = "14 sheets";
+        says("14 sheets");
         ScriptDesk x = deskOf(action(9) + action(9), 10);
         due("not locked", x.sheets(1), -3);
         due("not locked, no such group", x.sheets(9), -3);
@@ -693,7 +592,7 @@ public final class PromiseTests {
     }
 
     private static void sheetsForced() {
-        promise = "14 sheets: no place allows it";
+        says("14 sheets: no place allows it");
         // A head of 12 rows: 10 and 2, and then an empty row.
         ScriptDesk x = lockedDesk("INT. A\n\nabc", 10);
         put(x, rows(12, 40));
@@ -732,7 +631,7 @@ public final class PromiseTests {
     }
 
     private static void sheet() {
-        promise = "15 sheet";
+        says("15 sheet");
         ScriptDesk x = deskOf("INT. A\n\n" + talk(2) + action(3), 10);
         due("not locked", x.sheet(1, 0, 0), -3);
         due("not locked, what 4", x.sheet(1, 0, 4), -2);
@@ -764,7 +663,7 @@ public final class PromiseTests {
     }
 
     private static void where() {
-        promise = "16 where";
+        says("16 where");
         ScriptDesk x = deskOf(talk(18) + action(2), 10);
         due("not locked", x.where(0), -3);
         due("BAD goes ahead of NO", x.where(3), -2);
@@ -787,7 +686,7 @@ public final class PromiseTests {
     }
 
     private static void merge() {
-        promise = "17 merge";
+        says("17 merge");
         ScriptDesk x = deskOf("INT. A\n\nabc\n\ndef", 10);
         due("not locked", x.merge(), -3);
         x.lock();
@@ -821,7 +720,7 @@ public final class PromiseTests {
             + "EXT. B\n\nANN\nha\n\nCUT TO:\n\n";
 
     private static void scenes() {
-        promise = "18 scenes, 19 scene";
+        says("18 scenes, 19 scene");
         due("none", new ScriptDesk().scenes(), 0);
         due("no head", desk("abc").scenes(), 0);
         ScriptDesk x = desk(TWO_SCENES);
@@ -862,7 +761,7 @@ public final class PromiseTests {
     }
 
     private static void who() {
-        promise = "20 who";
+        says("20 who");
         ScriptDesk x = desk(TWO_SCENES);
         due("who(0, 0)", x.who(0, 0), 5);
         due("who(0, 1)", x.who(0, 1), 8);
@@ -890,7 +789,7 @@ public final class PromiseTests {
     }
 
     private static void parts() {
-        promise = "21 parts";
+        says("21 parts");
         ScriptDesk x = desk(TWO_SCENES);
         due("BOB ahead of all scenes", x.parts(1), 1);
         due("BOB", x.parts(10), 1);
@@ -906,7 +805,7 @@ public final class PromiseTests {
     }
 
     private static void count() {
-        promise = "22 count";
+        says("22 count");
         ScriptDesk x = deskOf("INT. A\n\n" + action(3), 10);
         put(x, "abc");
         x.lock();
@@ -928,7 +827,7 @@ public final class PromiseTests {
     }
 
     private static void digest() {
-        promise = "23 digest";
+        says("23 digest");
         ScriptDesk x = new ScriptDesk();
         due("new", x.digest(), digestOf(0, 0, 0, 0, 0, 20, 0, -1));
         put(x, "ab c\n\nd");
