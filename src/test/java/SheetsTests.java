@@ -6,6 +6,7 @@ public final class SheetsTests extends Bench {
         struck();
         strikeCalls();
         inserted();
+        insertedWithAFullTape();
         insertedBehindLastPiece();
         noOtherIsBroken();
         insertCalls();
@@ -131,6 +132,27 @@ public final class SheetsTests extends Bench {
             rowsAre(x, 3, "INT. A BOB hi");
             due("kind", x.element(3, 0), kind);
         }
+    }
+
+    private static void insertedWithAFullTape() {
+        says("with THE TAPE: all 1200 bytes of it");
+        int[] rows = {30, 30, 50, 60, 43, 30};
+        for (int kind = 0; kind < 6; kind++) {
+            ScriptDesk x = locked(40, el(CHANGE, 1));
+            due("fed", put(x, "w".repeat(1200)), 1200);
+            due("number", x.insert(0, kind), 1);
+            due("one word", x.element(1, 1), 1);
+            due("rows", x.element(1, 2), rows[kind]);
+            due("the tape is empty", x.count(0), 0);
+            put(x, "\n".repeat(1199) + "w");
+            due("one word behind many 10s", x.insert(0, kind), 2);
+            rowsAre(x, 2, "w");
+        }
+        ScriptDesk x = locked(40, el(CHANGE, 1));
+        put(x, "a ".repeat(600));
+        due("600 words", x.insert(0, ASIDE), 1);
+        due("words", x.element(1, 1), 600);
+        due("10 in a row", x.element(1, 2), 60);
     }
 
     private static void insertedBehindLastPiece() {
@@ -437,6 +459,17 @@ public final class SheetsTests extends Bench {
         insertRows(x, 1, CHANGE, 8);
         sheetRows(x, 1, 10, 10);
         sheetIs(x, 1, 1, 10, 2, 1, 2);
+        says("within an ACTION that has one ROW of room: behind that ROW");
+        x = locked(10, el(HEAD, 8));
+        insertRows(x, 0, ACTION, 9);
+        sheetRows(x, 1, 10, 8);
+        says("and two ROWS behind it, also counted from there");
+        x = locked(10, el(HEAD, 8));
+        insertRows(x, 0, ACTION, 12);
+        sheetRows(x, 1, 10, 9, 2);
+        x = locked(10, el(HEAD, 8));
+        insertRows(x, 0, ACTION, 13);
+        sheetRows(x, 1, 10, 10, 2);
     }
 
     private static void forcedMore() {
@@ -459,6 +492,9 @@ public final class SheetsTests extends Bench {
         insertRows(x, 0, SPEECH, 4);
         // 8 + 2 + (MORE) has no room: forced behind one row, with (MORE); then (CONT) and 3.
         sheetRows(x, 1, 10, 4);
+        x = locked(10, el(NAME, 8));
+        insertRows(x, 0, SPEECH, 12);
+        sheetRows(x, 1, 10, 10, 4);
     }
 
     private static void forcedEmptyRow() {
